@@ -44,16 +44,21 @@ public final class PutTest {
         Check.same("right side", desk.tutor.line(6), 95);
         Check.same("begin with fewer", desk.tutor.begin(4), 0);
         Check.same("right side of fewer", desk.tutor.line(6), 99);
+        desk.put("x=12345");
+        desk.tutor.put(0, '7' | '=' << 8 | 'x' << 16 | '+' << 24);
+        Check.same("begin with what is behind four bytes", desk.tutor.begin(7), 0);
+        Check.same("present line", desk.parts(), "0/1 7/1 1/1 345/1 =");
     }
 
     private static void allBytesAreSeen() {
-        TutorLines tutor = new TutorLines();
         for (int value = 0; value < 256; value++) {
+            TutorLines tutor = new TutorLines();
             boolean goesOn = value == ' ' || value >= '0' && value <= '9';
             tutor.put(0, 'x' | '=' << 8 | '1' << 16 | value << 24);
             int due = goesOn ? 0 : "+-*/".indexOf(value) >= 0 ? -1 - 4 : -1 - 3;
             Check.same("begin with byte " + value, tutor.begin(4), due);
         }
+        TutorLines tutor = new TutorLines();
         tutor.put(0, -1);
         Check.same("begin with bytes 255", tutor.begin(4), -1);
     }

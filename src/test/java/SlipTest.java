@@ -21,6 +21,9 @@ public final class SlipTest {
         explain("2*x=6+x", "3*x=6", 0, 1);
         explain("2*x+1=6+x", "3*x+1=6", 0, 1);
         explain("2*x+1=6-x/2", "3/2*x+1=6", 0, 1);
+        explain("2*x+1=x", "3*x+1=0", 0, 1);
+        explain("4=x+1", "x+4=1", 0, 1);
+        explain("4=x+1", "0=x+5", 0, 2);
         explain("2*x+4=6", "2*x=10", 0, 2);
         explain("2*x+4=6+x", "2*x=10+x", 0, 2);
         explain("2*x-4=1/2+x", "2*x=x-7/2", 0, 2);

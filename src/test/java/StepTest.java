@@ -57,6 +57,12 @@ public final class StepTest {
         judge("x>7/5", "x>10/7", OTHERS);
         judge("x>10/7", "x>7/5", MORE);
         judge("x<7/5", "x<7/5", SAME);
+        judge("x<3", "x<7/2", MORE);
+        judge("x<7/2", "x<3", OTHERS);
+        judge("x>3", "x>7/2", OTHERS);
+        judge("x>7/2", "x>3", MORE);
+        judge("x<1/2", "x<2/5", OTHERS);
+        judge("x<2/5", "x<1/2", MORE);
     }
 
     private static void manySteps() {

@@ -92,6 +92,11 @@ public final class WitnessTest {
         desk.step("x=3");
         desk.begin("x=7");
         Check.refusesState("after begin", () -> desk.tutor.witness(0));
+        desk.step("x=3");
+        Check.same("of another task", desk.witness(), "7/1");
+        desk.begin("1=2");
+        desk.step("2=2");
+        Check.same("0, behind another one", desk.witness(), "0/1");
     }
 
     private static void wrongCalls() {
