@@ -14,6 +14,7 @@ public final class TutorLines {
     private final Line written;
     private final Line scratch;
     private final SolutionSet presentSet;
+    // Those of the latest step, kept for witness() as long as refused holds.
     private final SolutionSet writtenSet;
     private boolean refused;
     private int slipFound;
