@@ -6,8 +6,14 @@ final class Check {
 
     private static int done;
     private static int wrong;
+    private static String heading = "";
 
     private Check() {
+    }
+
+    /** The words of the document that the checks behind this call hold to. */
+    static void sentence(int promise, String words) {
+        heading = "promise " + promise + " (" + words + "): ";
     }
 
     static void same(String what, long got, long due) {
@@ -51,7 +57,7 @@ final class Check {
         done++;
         if (!right) {
             wrong++;
-            System.out.println(what + " answered " + got + ", due is " + due);
+            System.out.println(heading + what + " answered " + got + ", due is " + due);
         }
     }
 }

@@ -63,4 +63,37 @@ final class Desk {
     String counts() {
         return tutor.count(0) + " " + tutor.count(1) + " " + tutor.count(2) + " " + tutor.count(3);
     }
+
+    /** All that can be told without a change: what a call that does nothing must leave. */
+    String state() {
+        StringBuilder all = new StringBuilder(counts()).append("; ").append(points());
+        all.append("; slip ").append(tutor.slip()).append("; witness ").append(witnessOrRefusal());
+        all.append("; printed \"").append(printed()).append('"');
+        if (tutor.count(0) > 0) {
+            all.append("; ").append(parts()).append("; ").append(solutions()).append("; hint ").append(tutor.hint());
+        }
+        return all.toString();
+    }
+
+    private String witnessOrRefusal() {
+        String thrown = Check.thrownBy(() -> tutor.witness(0));
+        return thrown.equals("nothing") ? witness() : thrown;
+    }
+
+    /** What was printed latest. */
+    private String printed() {
+        StringBuilder all = new StringBuilder();
+        for (int i = 0; i < 100 && tutor.printed(i) >= 0; i++) {
+            all.append((char) tutor.printed(i));
+        }
+        return all.toString();
+    }
+
+    /** Goes on with steps that are the present line again, up to so many lines. */
+    void fill(String line, int lines) {
+        put(line);
+        for (int n = tutor.count(0) + 1; n <= lines; n++) {
+            Check.same("step \"" + line + "\" to line " + n, tutor.step(line.length()), 1);
+        }
+    }
 }
