@@ -1,4 +1,4 @@
-/** The edges that the document names for promise 3, and for what a line and its fault are (promise 4 reads likewise). */
+/** The edges that the document names for promise 3 and for what a line is (promise 4 reads likewise). */
 public final class EdgesOfBeginTest {
     private static final int NO_FAULT = -1;
 

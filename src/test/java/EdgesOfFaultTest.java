@@ -208,7 +208,7 @@ public final class EdgesOfFaultTest {
     }
 
     private static void theSignOfAFactor() {
-        Check.sentence(3, "A sign's fault is told if there is no other one up to the end of the .. FACTOR .. behind it");
+        Check.sentence(3, "A sign's fault is told if there is no other one up to the end of the .. FACTOR");
         fault("x*xy", 1);
         fault("x*x*y", 1);
         fault("x*x/0", 1);
@@ -241,7 +241,7 @@ public final class EdgesOfFaultTest {
     }
 
     private static void asLongAsTheTextLets() {
-        Check.sentence(3, "each being as long as the text lets it be; what stands behind that isn't looked at any more");
+        Check.sentence(3, "as long as the text lets it be; what stands behind that isn't looked at any more");
         // 9999+0 would do, 9999+01 doesn't; 1000*9 would do, 1000*90 doesn't.
         fault("9999+01=x", 4);
         fault("9999+0 1=x", 4);

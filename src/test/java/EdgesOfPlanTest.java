@@ -1,5 +1,8 @@
 /** The edges that the document names for promises 7, 8 and 9: hint, take and undo. */
 public final class EdgesOfPlanTest {
+    private static final String NOT_THERE =
+            "A line of the plan whose fractions have a part above 9999 isn't there: the hint is -1 then.";
+
     public static void main(String[] args) {
         firstIfCIsNot0();
         secondIfBIsNot0();
@@ -62,7 +65,7 @@ public final class EdgesOfPlanTest {
     }
 
     private static void largeFirst() {
-        Check.sentence(7, "A line of the plan whose fractions have a part above 9999 isn't there: the hint is -1 then.");
+        Check.sentence(7, NOT_THERE);
         hint("9998*x=1-x", 1);
         hint("9999*x=1-x", -1);
         hint("-9998*x=1+x", 1);
@@ -74,7 +77,7 @@ public final class EdgesOfPlanTest {
     }
 
     private static void largeSecond() {
-        Check.sentence(7, "A line of the plan whose fractions have a part above 9999 isn't there: the hint is -1 then.");
+        Check.sentence(7, NOT_THERE);
         hint("x+1=-9998", 2);
         hint("x+1=-9999", -1);
         hint("x-1=9998", 2);
@@ -87,7 +90,7 @@ public final class EdgesOfPlanTest {
     }
 
     private static void largeThird() {
-        Check.sentence(7, "A line of the plan whose fractions have a part above 9999 isn't there: the hint is -1 then.");
+        Check.sentence(7, NOT_THERE);
         hint("x/3=3333", 3);
         hint("x/2=5000", -1);
         hint("-x/3=3333", 3);

@@ -92,7 +92,7 @@ public final class EdgesOfTellingTest {
     }
 
     private static void placesAtTheEdges() {
-        Check.sentence(11, "2 a point, 3 all below, 4 all above a bound; 1, 2: the point's or bound's part above, below");
+        Check.sentence(11, "3 all below, 4 all above a bound; 1, 2: the point's or bound's part above, below");
         tell("x=0", "2 0/1");
         tell("x<0", "3 0/1");
         tell("-x<0", "4 0/1");

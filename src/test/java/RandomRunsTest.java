@@ -26,7 +26,7 @@ public final class RandomRunsTest {
         }
         // Runs that never come to what they should compare would prove nothing.
         for (int kind = 0; kind < seen.length; kind++) {
-            Check.same("kind " + kind + " of answers was seen " + seen[kind] + " times, enough", seen[kind] > 100, true);
+            Check.same("kind " + kind + " of answers was seen often: " + seen[kind], seen[kind] > 100, true);
         }
         Check.finish();
     }
